@@ -264,11 +264,26 @@ public final class SignLetters {
     }
 
     public int greatestArea() {
-        return greatestFittingArea();
+        for (int area = GREATEST_WANTED; area >= AREA_STEP; area -= AREA_STEP) {
+            trial.lay(state, WANTED_AREA, area);
+            if (trial.width <= state.boardLength) {
+                return area;
+            }
+        }
+        return NONE;
     }
 
     public int bestSnap() {
-        return leastSpoilingSnap();
+        int best = 1;
+        int fewest = MOST_ITEMS;
+        for (int snap = 1; snap <= GREATEST_SNAP; snap++) {
+            trial.lay(state, SNAP, snap);
+            if (trial.faults <= fewest) {
+                fewest = trial.faults;
+                best = snap;
+            }
+        }
+        return best;
     }
 
     public int bestKern(int place) throws IndexOutOfBoundsException {
@@ -279,7 +294,11 @@ public final class SignLetters {
     }
 
     public double even() {
-        return evenness(look());
+        Layout layout = look();
+        if (layout.pairs <= 0) {
+            return 1.0;
+        }
+        return (double) (layout.pairs - layout.faults) / (double) layout.pairs;
     }
 
     public long digest() {
@@ -294,9 +313,9 @@ public final class SignLetters {
         trial.lay(state, SNAP, DIGEST_SNAP);
         hash = mixed(hash, trial.faults);
         hash = mixed(hash, trial.width);
-        hash = mixed(hash, greatestFittingArea());
-        hash = mixed(hash, leastSpoilingSnap());
-        hash = mixed(hash, bitsOf(evenness(layout)));
+        hash = mixed(hash, greatestArea());
+        hash = mixed(hash, bestSnap());
+        hash = mixed(hash, bitsOf(even()));
         return mixedText(hash);
     }
 
@@ -381,38 +400,6 @@ public final class SignLetters {
         return layout.isPair(place) ? valueAt(layout.areas, place) : NONE;
     }
 
-    private static double evenness(Layout layout) {
-        if (layout.pairs <= 0) {
-            return 1.0;
-        }
-        return (double) (layout.pairs - layout.faults) / (double) layout.pairs;
-    }
-
-    // ---- the line as it would be
-
-    private int greatestFittingArea() {
-        for (int area = GREATEST_WANTED; area >= AREA_STEP; area -= AREA_STEP) {
-            trial.lay(state, WANTED_AREA, area);
-            if (trial.width <= state.boardLength) {
-                return area;
-            }
-        }
-        return NONE;
-    }
-
-    private int leastSpoilingSnap() {
-        int best = 1;
-        int fewest = MOST_ITEMS;
-        for (int snap = 1; snap <= GREATEST_SNAP; snap++) {
-            trial.lay(state, SNAP, snap);
-            if (trial.faults <= fewest) {
-                fewest = trial.faults;
-                best = snap;
-            }
-        }
-        return best;
-    }
-
     // ---- the digest
 
     private static long mixed(long hash, long value) {
@@ -457,7 +444,7 @@ public final class SignLetters {
         return result;
     }
 
-    // LANGUAGE.md has no Double.doubleToLongBits; for a share from 0 to 1 these steps are exact.
+    // LANGUAGE.md leaves no call that tells a double's bits; for 0.0 to 1.0 these steps are exact.
     private static long bitsOf(double share) {
         if (share <= 0.0) {
             return 0L;

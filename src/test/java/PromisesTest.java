@@ -542,6 +542,12 @@ final class PromisesTest {
             int rank = i;
             due("byArea " + i, places[i], () -> sign.byArea(rank));
         }
+        due("byFault ahead of a change", 2, () -> sign.byFault(0));
+        sign.drop(5);
+        due("byArea behind a change", "1 3 4 2 -1", () -> sign.byArea(0) + " " + sign.byArea(1) + " "
+            + sign.byArea(2) + " " + sign.byArea(3) + " " + sign.byArea(4));
+        due("byFault behind a change", "2 4 1 3 -1", () -> sign.byFault(0) + " " + sign.byFault(1) + " "
+            + sign.byFault(2) + " " + sign.byFault(3) + " " + sign.byFault(4));
         due("byArea far away", -1, () -> sign.byArea(HIGHEST));
         due("byArea -1", ARGUMENT, () -> sign.byArea(-1));
         due("byArea far below", ARGUMENT, () -> sign.byArea(LOWEST));
@@ -675,6 +681,16 @@ final class PromisesTest {
         // By the snap 9 A stands at 27 for the gap 6, and at 18 from -1 on.
         SignLetters nine = lined("BA", 4, 9);
         due("a kern of -1", 9, () -> nine.bestKern(1));
+        // CA has 16 and 10 for each of its gap: 76 by 6. C ends at 11: only -5 lets A stand at 12 and not at 24.
+        SignLetters twelve = lined("CA", 3, 70);
+        twelve.set(4, 12);
+        due("a kern of -5", 5, () -> twelve.bestKern(1));
+        SignLetters many = lined("ABCAAD");
+        int[] kerns = {-1, 9, 9, 9, 9, 10};
+        for (int i = 0; i < kerns.length; i++) {
+            int place = i;
+            due("bestKern of the pair " + i, kerns[i], () -> many.bestKern(place));
+        }
         // AA by 63: the gap 5 is 68, 4 is 58: both are 5 off, and 0 is nearer than -1.
         SignLetters twins = lined("AA", 3, 63);
         due("of a tie the one nearest to 0", 10, () -> twins.bestKern(1));
