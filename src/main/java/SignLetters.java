@@ -294,11 +294,7 @@ public final class SignLetters {
     }
 
     public double even() {
-        Layout layout = look();
-        if (layout.pairs <= 0) {
-            return 1.0;
-        }
-        return (double) (layout.pairs - layout.faults) / (double) layout.pairs;
+        return evenness(look());
     }
 
     public long digest() {
@@ -315,7 +311,7 @@ public final class SignLetters {
         hash = mixed(hash, trial.width);
         hash = mixed(hash, greatestArea());
         hash = mixed(hash, bestSnap());
-        hash = mixed(hash, bitsOf(even()));
+        hash = mixed(hash, bitsOf(evenness(layout)));
         return mixedText(hash);
     }
 
@@ -398,6 +394,13 @@ public final class SignLetters {
 
     private static int areaOf(Layout layout, int place) {
         return layout.isPair(place) ? valueAt(layout.areas, place) : NONE;
+    }
+
+    private static double evenness(Layout layout) {
+        if (layout.pairs <= 0) {
+            return 1.0;
+        }
+        return (double) (layout.pairs - layout.faults) / (double) layout.pairs;
     }
 
     // ---- the digest
@@ -618,6 +621,7 @@ public final class SignLetters {
         private int rowLimit;
         private int wantedArea;
         private int snap;
+        private int allowedShare;
 
         /** Lays a state with one setting changed; with the setting NONE, as it is. */
         void lay(State state, int setting, int value) {
@@ -626,6 +630,7 @@ public final class SignLetters {
             rowLimit = valueAt(settings, ROW_LIMIT);
             wantedArea = valueAt(settings, WANTED_AREA);
             snap = valueAt(settings, SNAP);
+            allowedShare = valueAt(settings, ALLOWED_SHARE);
             brushEdges(valueAt(settings, BRUSH));
             items = state.items;
             pairs = 0;
@@ -641,7 +646,7 @@ public final class SignLetters {
         }
 
         boolean isFault(int place) {
-            return isPair(place) && valueAt(shares, place) > valueAt(settings, ALLOWED_SHARE);
+            return isPair(place) && valueAt(shares, place) > allowedShare;
         }
 
         private void brushEdges(int brush) {
@@ -658,8 +663,8 @@ public final class SignLetters {
                 joinEdges(before, letter);
                 begin += layPair(place, state.kernAt(place));
             } else {
+                begin = letter == NONE || place == 0 ? begin : snapped(begin);
                 storePair(place, NONE, NONE, NONE);
-                begin = letter == NONE || place == 0 ? width : snapped(width);
             }
             store(begins, place, begin);
             width = begin + (letter == NONE ? valueAt(settings, BLANK_WIDTH) : widthOf(letter));
@@ -670,10 +675,11 @@ public final class SignLetters {
             int leastGap = leastGap();
             int gap = gapBehind(width, leastGap + kern);
             int area = areaBy(gap);
+            int share = shareOf(area);
             store(leastGaps, place, leastGap);
-            storePair(place, gap, area, shareOf(area));
+            storePair(place, gap, area, share);
             pairs++;
-            if (isFault(place)) {
+            if (share > allowedShare) {
                 faults++;
             }
             return gap;
