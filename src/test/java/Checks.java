@@ -4,6 +4,8 @@ import java.util.concurrent.Callable;
 final class Checks {
     private int made = 0;
     private int wrong = 0;
+    private int sentences = 0;
+    private String told = "";
 
     /** The answer of a call as a text; that of one that throws is the exception's plain name. */
     static String answer(Callable<?> call) {
@@ -18,9 +20,29 @@ final class Checks {
         made++;
         String got = answer(call);
         if (!got.equals(String.valueOf(want))) {
-            wrong++;
-            System.out.println(what + " answered " + got + ", due is " + want);
+            tellWrong(what + " answered " + got + ", due is " + want);
         }
+    }
+
+    /** The test of one sentence of the document. What it throws is told as well, so that the others still run. */
+    void sentence(String words, Runnable test) {
+        int before = made;
+        sentences++;
+        told = words + ": ";
+        try {
+            test.run();
+        } catch (RuntimeException e) {
+            tellWrong("its test was ended by " + e);
+        }
+        if (made == before) {
+            tellWrong("its test looks at nothing");
+        }
+        told = "";
+    }
+
+    private void tellWrong(String text) {
+        wrong++;
+        System.out.println(told + text);
     }
 
     boolean allRight() {
@@ -28,7 +50,7 @@ final class Checks {
     }
 
     void end() {
-        System.out.println(made + " checks, " + wrong + " wrong");
+        System.out.println((sentences > 0 ? sentences + " sentences, " : "") + made + " checks, " + wrong + " wrong");
         if (wrong != 0) {
             System.exit(1);
         }

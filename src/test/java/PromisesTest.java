@@ -1,15 +1,7 @@
 import java.util.function.Supplier;
 
 /** Each promise by itself: ordinary calls, the edges that the document names, and wrong arguments. */
-final class PromisesTest {
-    private static final String INDEX = "IndexOutOfBoundsException";
-    private static final String ARGUMENT = "IllegalArgumentException";
-    private static final String STATE = "IllegalStateException";
-    private static final int LOWEST = Integer.MIN_VALUE;
-    private static final int HIGHEST = Integer.MAX_VALUE;
-
-    private static final Checks CHECKS = new Checks();
-
+final class PromisesTest extends Signs {
     public static void main(String[] args) {
         promise1NewObject();
         promise2Put();
@@ -45,64 +37,6 @@ final class PromisesTest {
         promise26Digest();
         CHECKS.end();
     }
-
-    // ---- helpers
-
-    private static void due(String what, Object want, java.util.concurrent.Callable<?> call) {
-        CHECKS.due(what, want, call);
-    }
-
-    private static void type(SignLetters sign, String text) {
-        for (int i = 0; i < text.length(); i++) {
-            sign.append(text.charAt(i));
-        }
-    }
-
-    private static SignLetters lined(String text) {
-        SignLetters sign = new SignLetters();
-        type(sign, text);
-        sign.line();
-        return sign;
-    }
-
-    private static SignLetters lined(String text, int setting, int value) {
-        SignLetters sign = lined(text);
-        sign.set(setting, value);
-        return sign;
-    }
-
-    /** The line as a text, read off its items. */
-    private static String textOf(SignLetters sign) {
-        StringBuilder text = new StringBuilder();
-        for (int place = 0; place < sign.count(0); place++) {
-            int letter = sign.item(place, 0);
-            int kern = sign.item(place, 1) - 10;
-            text.append(letter == -1 ? '_' : (char) ('A' + letter));
-            if (letter != -1 && kern != 0) {
-                text.append(kern > 0 ? '+' : '-').append(kern > 0 ? kern : -kern);
-            }
-        }
-        return text.toString();
-    }
-
-    /** A number of each item in turn. */
-    private static String row(SignLetters sign, int what) {
-        StringBuilder row = new StringBuilder();
-        for (int place = 0; place < sign.count(0); place++) {
-            row.append(place == 0 ? "" : " ").append(sign.item(place, what));
-        }
-        return row.toString();
-    }
-
-    private static String counts(SignLetters sign) {
-        StringBuilder row = new StringBuilder();
-        for (int what = 0; what < 16; what++) {
-            row.append(what == 0 ? "" : " ").append(sign.count(what));
-        }
-        return row.toString();
-    }
-
-    // ---- the promises
 
     private static void promise1NewObject() {
         SignLetters sign = new SignLetters();
@@ -711,73 +645,21 @@ final class PromisesTest {
 
     private static void promise26Digest() {
         SignLetters sign = new SignLetters();
-        due("digest of an empty line", spelled(sign), sign::digest);
+        due("digest of an empty line", spelled(sign, ""), sign::digest);
         type(sign, "ABC-3_DEFG+2A");
-        due("digest with a buffer", spelled(sign), sign::digest);
+        due("digest with a buffer", spelled(sign, "ABC-3_DEFG+2A"), sign::digest);
         sign.line();
-        due("digest of a line", spelled(sign), sign::digest);
+        due("digest of a line", spelled(sign, ""), sign::digest);
         sign.set(4, 3);
         sign.set(0, 2);
         sign.board(80);
         type(sign, "A~");
-        due("digest of a changed line", spelled(sign), () -> digestBehind(sign, "A~"));
+        due("digest of a changed line", spelled(sign, "A~"), sign::digest);
         due("digest changes nothing", 2, sign::clearBuffer);
         SignLetters even = lined("BBBBBBBBBBBBBBBBBBBB");
         for (int place = 1; place < 20; place++) {
             even.kern(place, 5);
-            due("digest by " + place + " faults", spelled(even), even::digest);
+            due("digest by " + place + " faults", spelled(even, ""), even::digest);
         }
-    }
-
-    // The buffer can't be looked at, so what was typed is typed anew.
-    private static long digestBehind(SignLetters sign, String typed) {
-        sign.clearBuffer();
-        type(sign, typed);
-        return sign.digest();
-    }
-
-    private static String typedAndKept(SignLetters sign) {
-        String[] known = {"", "ABC-3_DEFG+2A", "A~"};
-        int length = sign.clearBuffer();
-        for (String text : known) {
-            if (text.length() == length) {
-                type(sign, text);
-                return text;
-            }
-        }
-        return "";
-    }
-
-    /** The digest, spelled out by the other calls of the face. */
-    private static long spelled(SignLetters sign) {
-        long hash = 3697;
-        for (int what = 0; what <= 15; what++) {
-            hash = 31 * hash + sign.count(what);
-        }
-        for (int place = 0; place < sign.count(0); place++) {
-            for (int what = 0; what <= 8; what++) {
-                hash = 31 * hash + sign.item(place, what);
-            }
-            hash = 31 * hash + sign.bestKern(place);
-        }
-        for (int rank = 0; rank < sign.count(2); rank++) {
-            hash = 31 * hash + sign.byArea(rank);
-            hash = 31 * hash + sign.byFault(rank);
-        }
-        for (int shape = 0; shape <= 3; shape++) {
-            hash = 31 * hash + sign.indent(shape, 0);
-            hash = 31 * hash + sign.indent(shape, 9);
-        }
-        hash = 31 * hash + sign.ifSet(4, 5, 0);
-        hash = 31 * hash + sign.ifSet(4, 5, 1);
-        hash = 31 * hash + sign.greatestArea();
-        hash = 31 * hash + sign.bestSnap();
-        hash = 31 * hash + Double.doubleToLongBits(sign.even());
-        String text = typedAndKept(sign);
-        hash = 31 * hash + text.length();
-        for (int i = 0; i < text.length(); i++) {
-            hash = 31 * hash + text.charAt(i);
-        }
-        return hash;
     }
 }

@@ -33,6 +33,7 @@ final class RulesTest {
         face();
         members();
         text(Files.readString(Path.of(SOURCE)));
+        made(Files.readString(Path.of(SOURCE)));
         CHECKS.end();
     }
 
@@ -110,5 +111,16 @@ final class RulesTest {
             CHECKS.due("\"" + word + "\" in the source", -1, () -> source.indexOf(word));
         }
         CHECKS.due("a sign above 126 in the source", true, () -> source.chars().allMatch(sign -> sign <= 126));
+    }
+
+    /** Room is counted: what an object needs is made with it, and no call makes more than its exception. */
+    private static void made(String source) {
+        for (String line : source.split("\n")) {
+            String words = line.strip();
+            boolean making = words.contains("new ") && !words.startsWith("//");
+            boolean allowed = words.startsWith("throw new ") || words.startsWith("private final ")
+                || words.equals("states[index] = new State();");
+            CHECKS.due("what is made by " + words, true, () -> !making || allowed);
+        }
     }
 }
